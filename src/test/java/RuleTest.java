@@ -85,6 +85,8 @@ public final class RuleTest {
         Checks.feedText(match, "final down");
         CHECKS.due("cut short: rule(9)", match.rule(9), -8);
         CHECKS.due("also behind none: count(7)", match.count(7), 0);
+        Checks.feedText(match, "part 3 up");
+        CHECKS.due("cut ahead of the digit: rule(5)", match.rule(5), -7);
         Checks.feedText(match, "final down");
         CHECKS.due("rule(0) of a full tape", match.rule(0), -2);
         CHECKS.due("count(7)", match.count(7), 0);
