@@ -76,11 +76,15 @@ final class Checks {
     /** A match of so many PLOUGHMEN of CLASS 0, drawn so that PLOUGHMAN k has PLOT k. */
     static PloughingMatch inRow(int ploughmen) {
         PloughingMatch match = new PloughingMatch();
+        enterAndDraw(match, ploughmen);
+        return match;
+    }
+
+    static void enterAndDraw(PloughingMatch match, int ploughmen) {
         for (int k = 0; k < ploughmen; k++) {
             match.ploughman(0, 20 + k, k % 10);
         }
         drawInRow(match);
-        return match;
     }
 
     /** The number i leaves i by i + 1, so that each place changes with itself. */

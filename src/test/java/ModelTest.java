@@ -147,33 +147,9 @@ public final class ModelTest {
 
     private String answer(boolean ofModel, String name, int[] a) {
         try {
-            return String.valueOf(ofModel ? model.call(name, a) : ask(name, a));
+            return String.valueOf(ofModel ? model.call(name, a) : Calls.ask(match, name, a));
         } catch (RuntimeException thrown) {
             return "throws." + thrown.getClass().getSimpleName();
         }
-    }
-
-    private int ask(String name, int[] a) {
-        return switch (name) {
-            case "ploughman" -> match.ploughman(a[0], a[1], a[2]);
-            case "noise" -> match.noise(a[0]);
-            case "draw" -> match.draw();
-            case "plot" -> match.plot(a[0]);
-            case "mark" -> match.mark(a[0], a[1], a[2], a[3]);
-            case "hard" -> match.hard(a[0], a[1]);
-            case "told" -> match.told(a[0], a[1]);
-            case "about" -> match.about(a[0], a[1]);
-            case "minutes" -> match.minutes(a[0], a[1]);
-            case "limit" -> match.limit(a[0]);
-            case "feed" -> match.feed(a[0], a[1], a[2], a[3], a[4]);
-            case "rule" -> match.rule(a[0]);
-            case "rank" -> match.rank(a[0], a[1]);
-            case "protest" -> match.protest(a[0], a[1]);
-            case "publish" -> match.publish();
-            case "points" -> match.points(a[0], a[1]);
-            case "line" -> match.line(a[0], a[1]);
-            case "wait" -> match.wait(a[0]);
-            default -> match.count(a[0]);
-        };
     }
 }
