@@ -27,4 +27,30 @@ final class Calls {
             default -> throw new UnsupportedOperationException("the face has no " + name);
         };
     }
+
+    /** The answer as a text, or the name of the exception that was thrown. */
+    static String answer(PloughingMatch match, String name, String list) {
+        try {
+            return String.valueOf(ask(match, name, numbers(list)));
+        } catch (RuntimeException thrown) {
+            return thrown.getClass().getSimpleName();
+        }
+    }
+
+    /** The numbers of a list such as "0, -1, 0x75700000, min, max". */
+    static int[] numbers(String list) {
+        if (list.isEmpty()) {
+            return new int[0];
+        }
+        String[] words = list.split(", ");
+        int[] numbers = new int[words.length];
+        for (int k = 0; k < words.length; k++) {
+            numbers[k] = switch (words[k]) {
+                case "min" -> Integer.MIN_VALUE;
+                case "max" -> Integer.MAX_VALUE;
+                default -> (int) (long) Long.decode(words[k]);
+            };
+        }
+        return numbers;
+    }
 }

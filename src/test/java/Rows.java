@@ -66,7 +66,7 @@ final class Rows {
         try {
             return String.valueOf(parts.group(4) != null
                 ? makeWithText(match, parts.group(2), parts.group(4))
-                : makeWithNumbers(match, parts.group(2), numbers(parts.group(3))));
+                : makeWithNumbers(match, parts.group(2), Calls.numbers(parts.group(3))));
         } catch (RuntimeException thrown) {
             return thrown.getClass().getSimpleName();
         }
@@ -89,21 +89,5 @@ final class Rows {
             return match.count(1);
         }
         return Calls.ask(match, name, numbers);
-    }
-
-    private static int[] numbers(String list) {
-        if (list.isEmpty()) {
-            return new int[0];
-        }
-        String[] words = list.split(", ");
-        int[] numbers = new int[words.length];
-        for (int k = 0; k < words.length; k++) {
-            numbers[k] = switch (words[k]) {
-                case "min" -> Integer.MIN_VALUE;
-                case "max" -> Integer.MAX_VALUE;
-                default -> (int) (long) Long.decode(words[k]);
-            };
-        }
-        return numbers;
     }
 }
